@@ -20,14 +20,14 @@ public final class JanusMill {
     private final Machine machine = new Machine();
     private final Writer writer = new Writer();
     // A text that turns out to be wrong must not touch the program that there was, so it is read into the spare one.
-    private Program current = new Program();
-    private Program spare = new Program();
+    private Program current = machine.program;
+    private Program spare = reader.program;
     private int tapeLength;
     private int faultKind;
     private int faultPlace = NONE;
 
+    /** A mill without a program. */
     public JanusMill() {
-        machine.accept(current);
     }
 
     public int feed(int a, int b, int c, int d, int e) {
@@ -996,26 +996,24 @@ public final class JanusMill {
         private static final int ROOM = 512;
         private static final int UNFINISHED = -2;
 
-        private final Tokens tokens;
+        private final Tokens tokens = new Tokens();
         private final int[] pending = new int[ROOM];
         private final int[] pendingTokens = new int[ROOM];
         private final int[] pendingNames = new int[ROOM];
         private final int[] operands = new int[ROOM];
-        private Names names;
-        private Parts parts;
+        private Program program = new Program();
+        private Names names = program.names;
+        private Parts parts = program.parts;
         private int waiting;
         private int held;
         private int opened;
         private int changed;
         private int changedToo;
 
-        ExReader(Tokens tokens) {
-            this.tokens = tokens;
-        }
-
-        void start(Program program) {
-            names = program.names;
-            parts = program.parts;
+        void start(Program empty) {
+            program = empty;
+            names = empty.names;
+            parts = empty.parts;
         }
 
         /** The PART over all others of an ex in which two NAMES (or NONE) must not stand; NONE with a FAULT. */
@@ -1215,15 +1213,15 @@ public final class JanusMill {
         private static final int LONGEST_ROW = 200;
         private static final int HIGHEST_STACK = 40;
 
-        private final Tokens tokens = new Tokens();
-        private final ExReader exReader = new ExReader(tokens);
+        private final ExReader exReader = new ExReader();
+        private final Tokens tokens = exReader.tokens;
         // Of each block that is open: what is read behind it, and the INSTRUCTIONS of its statement so far.
         private final int[] stagesBehind = new int[MOST_OPEN];
         private final int[] heads = new int[MOST_OPEN];
         private final int[] middles = new int[MOST_OPEN];
-        private Program program;
-        private Names names;
-        private Code code;
+        private Program program = exReader.program;
+        private Names names = program.names;
+        private Code code = program.code;
         private int stage;
         private int open;
         private int head;
@@ -1653,11 +1651,10 @@ public final class JanusMill {
             tokens.take(Words.FROM, true);
             int e = exReader.read(0, NONE, NONE);
             code.giveEx(head, e, NONE);
+            stage = BEHIND_DO;
             if (tokens.kind() == Words.DO) {
                 tokens.take(Words.DO, true);
                 openBlock(BEHIND_DO, head, NONE);
-            } else {
-                readBehindDo();
             }
         }
 
@@ -1896,10 +1893,10 @@ public final class JanusMill {
         static final int NO_ROOM = 9;
 
         private final Store store = new Store();
-        private Program program;
-        private Names names;
-        private Parts parts;
-        private Code code;
+        private Program program = new Program();
+        private Names names = program.names;
+        private Parts parts = program.parts;
+        private Code code = program.code;
         private boolean running;
         private int goal;
         private int position;
@@ -2029,12 +2026,10 @@ public final class JanusMill {
                 case Code.IF:
                 case Code.ELSE:
                 case Code.FI:
-                    branch(i, on);
-                    break;
                 case Code.FROM:
                 case Code.UNTIL:
                 case Code.LOOP:
-                    turn(i, on);
+                    decide(i, on, worth(decidingEx(i, on), 1) != 0);
                     break;
                 case Code.LOCAL:
                 case Code.DELOCAL:
@@ -2054,7 +2049,7 @@ public final class JanusMill {
                     leave(on);
                     break;
                 case Code.ASSERT:
-                    test(isTrue(code.firsts[i]));
+                    test(worth(code.firsts[i], 1) != 0);
                     break;
                 default:
                     break;
@@ -2071,10 +2066,6 @@ public final class JanusMill {
             if (!holds) {
                 fail(TEST);
             }
-        }
-
-        private boolean isTrue(int part) {
-            return worth(part, 1) != 0;
         }
 
         private void update(int i, boolean on) {
@@ -2172,49 +2163,48 @@ public final class JanusMill {
             return meaning >= 0 && meaning < names.declared && names.sorts[meaning] == Names.STACK;
         }
 
-        private void branch(int i, boolean on) {
-            int middle = code.middles[i];
+        private int decidingEx(int i, boolean on) {
             switch (code.instructions[i]) {
                 case Code.IF:
-                    if (on) {
-                        next = isTrue(code.firsts[i]) ? i + 1 : middle + 1;
-                    } else {
-                        test(isTrue(code.firsts[i]));
-                    }
-                    break;
+                case Code.FROM:
+                    return code.firsts[i];
+                case Code.FI:
+                case Code.UNTIL:
+                    return code.seconds[i];
                 case Code.ELSE:
-                    test(on ? isTrue(code.seconds[i]) : !isTrue(code.firsts[i]));
-                    next = on ? code.partners[i] + 1 : middle;
-                    break;
+                    return on ? code.seconds[i] : code.firsts[i];
                 default:
-                    if (on) {
-                        test(!isTrue(code.seconds[i]));
-                    } else {
-                        next = isTrue(code.seconds[i]) ? middle : i;
-                    }
-                    break;
+                    return on ? code.firsts[i] : code.seconds[i];
             }
         }
 
-        private void turn(int i, boolean on) {
+        private void decide(int i, boolean on, boolean isTrue) {
+            int partner = code.partners[i];
+            int middle = code.middles[i];
             switch (code.instructions[i]) {
+                case Code.IF:
+                    test(on || isTrue);
+                    next = on && !isTrue ? middle + 1 : next;
+                    break;
+                case Code.ELSE:
+                    test(on == isTrue);
+                    next = on ? partner + 1 : middle;
+                    break;
+                case Code.FI:
+                    test(!on || !isTrue);
+                    next = !on && isTrue ? middle : next;
+                    break;
                 case Code.FROM:
-                    if (on) {
-                        test(isTrue(code.firsts[i]));
-                    } else {
-                        next = isTrue(code.firsts[i]) ? i : code.partners[i];
-                    }
+                    test(!on || isTrue);
+                    next = !on && !isTrue ? partner : next;
                     break;
                 case Code.UNTIL:
-                    if (on) {
-                        next = isTrue(code.seconds[i]) ? code.partners[i] + 1 : i + 1;
-                    } else {
-                        test(!isTrue(code.seconds[i]));
-                    }
+                    test(on || !isTrue);
+                    next = on && isTrue ? partner + 1 : next;
                     break;
                 default:
-                    test(on ? !isTrue(code.firsts[i]) : isTrue(code.seconds[i]));
-                    next = on ? code.partners[i] + 1 : code.middles[i];
+                    test(on != isTrue);
+                    next = on ? partner + 1 : middle;
                     break;
             }
         }
@@ -2321,6 +2311,10 @@ public final class JanusMill {
                 default:
                     long x = worth(left, depth + 1);
                     long y = worth(right, depth + 1);
+                    if (y == 0 && (operator == Words.OVER || operator == Words.REST)) {
+                        fail(ZERO);
+                        return 0;
+                    }
                     return reckon(operator, x, y);
             }
         }
@@ -2343,7 +2337,7 @@ public final class JanusMill {
             return store.numbers[store.bases[meaning] + height - 1];
         }
 
-        private long reckon(int operator, long x, long y) {
+        private static long reckon(int operator, long x, long y) {
             switch (operator) {
                 case Words.PLUS:
                     return x + y;
@@ -2352,12 +2346,9 @@ public final class JanusMill {
                 case Words.TIMES:
                     return x * y;
                 case Words.OVER:
+                    return y == 0 ? 0 : x / y;
                 case Words.REST:
-                    if (y == 0) {
-                        fail(ZERO);
-                        return 0;
-                    }
-                    return operator == Words.OVER ? x / y : x % y;
+                    return y == 0 ? 0 : x % y;
                 case Words.AND:
                     return x & y;
                 case Words.OR:
@@ -2405,7 +2396,6 @@ public final class JanusMill {
         private byte[] spare = new byte[MOST];
         private int outLength;
         private int length;
-        private boolean isLineStart;
         private boolean isInverse;
         private Program program;
         private Names names;
@@ -2420,7 +2410,6 @@ public final class JanusMill {
             code = written.code;
             isInverse = inverse;
             length = 0;
-            isLineStart = true;
             for (int v = 0; v < names.declared; v++) {
                 declare(v);
             }
@@ -2482,7 +2471,13 @@ public final class JanusMill {
             int i = isInverse ? end : begin;
             for (int n = begin; n <= end && code.isThere(i); n++) {
                 int role = isInverse ? inverseRole(code.instructions[i]) : code.instructions[i];
-                piece(i, role);
+                if (role >= Code.IF && role <= Code.DELOCAL) {
+                    pieceWithBlocks(i, role);
+                } else if (role == Code.UPDATE || role == Code.SWAP) {
+                    change(i);
+                } else {
+                    piece(i, role);
+                }
                 i = isInverse ? nextInverse(i) : i + 1;
             }
         }
@@ -2543,10 +2538,6 @@ public final class JanusMill {
                 case Code.END:
                     sign(Words.CLOSE_BLOCK);
                     break;
-                case Code.UPDATE:
-                case Code.SWAP:
-                    change(i);
-                    break;
                 case Code.PUSH:
                 case Code.POP:
                     quoted(role == Code.PUSH ? Words.PUSH : Words.POP);
@@ -2564,29 +2555,25 @@ public final class JanusMill {
                     ex(code.firsts[i], 1);
                     sign(Words.SEMICOLON);
                     break;
-                case Code.SKIP:
+                default:
                     quoted(Words.SKIP);
                     sign(Words.SEMICOLON);
-                    break;
-                default:
-                    pieceOfBlocks(i, role);
                     break;
             }
         }
 
-        private void pieceOfBlocks(int i, int role) {
+        /** What an if, from or local has ahead of its blocks, between them and behind them. */
+        private void pieceWithBlocks(int i, int role) {
             int e = isInverse ? code.seconds[i] : code.firsts[i];
             int e2 = isInverse ? code.firsts[i] : code.seconds[i];
+            if (role != Code.IF && role != Code.FROM && role != Code.LOCAL) {
+                sign(Words.CLOSE_BLOCK);
+            }
             switch (role) {
                 case Code.IF:
                     quoted(Words.IF);
-                    opening(e);
-                    break;
-                case Code.ELSE:
-                    between(Words.ELSE);
-                    break;
-                case Code.FI:
-                    closing(Words.FI, e2);
+                    ex(e, 1);
+                    sign(Words.OPEN_BLOCK);
                     break;
                 case Code.FROM:
                     quoted(Words.FROM);
@@ -2594,42 +2581,31 @@ public final class JanusMill {
                     quoted(Words.DO);
                     sign(Words.OPEN_BLOCK);
                     break;
-                case Code.UNTIL:
-                    between(Words.LOOP);
-                    break;
-                case Code.LOOP:
-                    closing(Words.UNTIL, e2);
-                    break;
                 case Code.LOCAL:
                     quoted(Words.LOCAL);
                     kindAndName(code.targets[i]);
                     sign(Words.EQUALS);
-                    opening(e);
+                    ex(e, 1);
+                    sign(Words.OPEN_BLOCK);
                     break;
-                case Code.DELOCAL:
-                    closing(Words.DELOCAL, e2);
+                case Code.ELSE:
+                case Code.UNTIL:
+                    quoted(role == Code.ELSE ? Words.ELSE : Words.LOOP);
+                    sign(Words.OPEN_BLOCK);
                     break;
                 default:
+                    quoted(endingWord(role));
+                    ex(e2, 1);
+                    sign(Words.SEMICOLON);
                     break;
             }
         }
 
-        private void opening(int e) {
-            ex(e, 1);
-            sign(Words.OPEN_BLOCK);
-        }
-
-        private void between(int kind) {
-            sign(Words.CLOSE_BLOCK);
-            quoted(kind);
-            sign(Words.OPEN_BLOCK);
-        }
-
-        private void closing(int kind, int e2) {
-            sign(Words.CLOSE_BLOCK);
-            quoted(kind);
-            ex(e2, 1);
-            sign(Words.SEMICOLON);
+        private static int endingWord(int role) {
+            if (role == Code.FI) {
+                return Words.FI;
+            }
+            return role == Code.LOOP ? Words.UNTIL : Words.DELOCAL;
         }
 
         private void change(int i) {
@@ -2714,15 +2690,16 @@ public final class JanusMill {
             word(spelling.wordOf(kind));
         }
 
+        // Behind each token stands one byte: a line end behind ; { and }, a blank behind all others. As each line ends
+        // with one of these three, there is no blank too many.
         private void word(long word) {
-            separate();
             for (int k = Words.lengthOf(word) - 1; k >= 0; k--) {
                 put(Words.byteFromEnd(word, k));
             }
+            put(' ');
         }
 
         private void sign(int kind) {
-            separate();
             int bytes = Words.bytesOfSign(kind);
             for (int shift = 16; shift >= 0; shift -= 8) {
                 int b = bytes >> shift & 255;
@@ -2730,14 +2707,11 @@ public final class JanusMill {
                     put(b);
                 }
             }
-            if (kind == Words.SEMICOLON || kind == Words.OPEN_BLOCK || kind == Words.CLOSE_BLOCK) {
-                put('\n');
-                isLineStart = true;
-            }
+            boolean isLast = kind == Words.SEMICOLON || kind == Words.OPEN_BLOCK || kind == Words.CLOSE_BLOCK;
+            put(isLast ? '\n' : ' ');
         }
 
         private void number(long number) {
-            separate();
             long left = number;
             int n = 0;
             do {
@@ -2748,13 +2722,7 @@ public final class JanusMill {
             for (int k = n - 1; k >= 0; k--) {
                 put('0' + digits[k]);
             }
-        }
-
-        private void separate() {
-            if (!isLineStart) {
-                put(' ');
-            }
-            isLineStart = false;
+            put(' ');
         }
 
         private void put(int b) {
