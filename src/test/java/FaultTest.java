@@ -22,6 +22,8 @@ public final class FaultTest {
         heights();
         order();
         latestLoad();
+        loadBehindFaults();
+        cutTape();
         Mill.finish();
     }
 
@@ -119,6 +121,9 @@ public final class FaultTest {
         fine("local int k = 1 { k += 1; } delocal 2;");
         faulty(1, "x @= 1;");
         faulty(1, "x @;");
+        faulty(1, "x @skip;");
+        faulty(1, "a[1] @y += 1;");
+        faulty(1, "x @}");
         faulty(1, "x += @;");
         Mill.faulty(1, DECLARED + "x += 1 @}");
         Mill.faulty(1, DECLARED + "x += 1@");
@@ -543,5 +548,60 @@ public final class FaultTest {
         Mill.due("load() of an empty tape", m.mill.load(), JanusMill.NONE);
         Mill.due("fault(0)", m.mill.fault(0), 1);
         Mill.due("fault(1)", m.mill.fault(1), 0);
+    }
+
+    /** What a wrong text had open or has used up does not count for the next one. */
+    private static void loadBehindFaults() {
+        Mill m = new Mill();
+        String full = "main{" + nestedLocals(12, "") + "}";
+        Mill.due("load() cut within locals", m.load(full.substring(0, full.indexOf("}"))), JanusMill.NONE);
+        Mill.due("load() of twelve locals", m.load(full), 26);
+        String blocks = "main{" + times(15, "if 1{") + times(15, "}fi 1;") + "}";
+        Mill.due("load() cut within blocks", m.load(blocks.substring(0, blocks.indexOf("}"))), JanusMill.NONE);
+        Mill.due("load() of sixteen blocks", m.load(blocks), 47);
+        String open = "int x;main{x+=" + times(40, "(") + "1" + times(40, ")") + ";}";
+        Mill.due("load() cut within brackets", m.load(open.substring(0, open.indexOf("1"))), JanusMill.NONE);
+        Mill.due("load() of forty brackets", m.load(open), 3);
+        String procedures = "proc p(int a,int b,int c,int d,int e,int f){" + times(60, "call p(f,e,d,c,b,a);") + "}main{}";
+        for (int i = 0; i < 6; i++) {
+            Mill.due("load() of 360 arguments", m.load(procedures), 64);
+            m.mill.write(false);
+            Mill.due("last call", m.out().contains("call p ( f , e , d , c , b , a ) ;\n}\nmain"));
+        }
+        String names = declarations(40) + "main{}";
+        Mill.due("load() of forty names", m.load(names.replace("main{}", "main{")), JanusMill.NONE);
+        Mill.due("load() of forty names", m.load(names), 2);
+        String numbers = "int a[200],b[200],c[200],d[200],e[200];main{";
+        Mill.due("load() of 1000 numbers", m.load(numbers), JanusMill.NONE);
+        Mill.due("load() of 1000 numbers", m.load(numbers + "}"), 2);
+    }
+
+    /** Bytes that THE TAPE has lost are not read. */
+    private static void cutTape() {
+        String text = "int xy;main{xy>>=123;skip;}";
+        for (int n = 0; n < text.length(); n++) {
+            Mill m = new Mill();
+            m.tape(text);
+            m.mill.end(n);
+            Mill.due("load() of the first " + n, m.mill.load(), JanusMill.NONE);
+            Mill cut = new Mill();
+            cut.load(text.substring(0, n));
+            Mill.due("kind in the first " + n, m.mill.fault(0), cut.mill.fault(0));
+            Mill.due("place in the first " + n, m.mill.fault(1), cut.mill.fault(1));
+        }
+        Mill.faulty(1, "int xy;main{xy@>");
+        // All 4000 bytes, with the last token at the very end.
+        for (String last : new String[] {"main{}", "main{};", "main{}>", "main{}>>", "main{}x", "main{}1", "main{}#"}) {
+            Mill m = new Mill();
+            m.tape(" ".repeat(4000 - last.length()) + last);
+            Mill.due("tape", m.mill.count(0), 4000);
+            boolean isFine = last.equals("main{}") || last.endsWith("#");
+            Mill.due("load() of 4000 bytes with " + last, m.mill.load(), isFine ? 2 : JanusMill.NONE);
+            Mill.due("its fault", m.mill.fault(1), isFine ? JanusMill.NONE : 4000 - last.length() + 6);
+        }
+        Mill m = new Mill();
+        m.tape("#".repeat(4000));
+        Mill.due("load() of a remark alone", m.mill.load(), JanusMill.NONE);
+        Mill.due("fault(1)", m.mill.fault(1), 4000);
     }
 }
