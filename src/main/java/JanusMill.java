@@ -537,7 +537,7 @@ public final class JanusMill {
         static final int HEIGHT = 8;
 
         private final Words words = new Words();
-        // One token beyond the most there may be is kept, so that its FAULT can be told, and an END behind that.
+        // One token beyond the most there may be is kept, so that its FAULT can be told; behind it always stands END.
         private final int[] kinds = new int[MOST + 2];
         private final int[] places = new int[MOST + 2];
         private final long[] values = new long[MOST + 2];
@@ -621,10 +621,6 @@ public final class JanusMill {
 
         int kind() {
             return kinds[at];
-        }
-
-        int kindBehind() {
-            return kinds[Math.min(at + 1, MOST + 1)];
         }
 
         long word() {
@@ -1447,7 +1443,7 @@ public final class JanusMill {
             open--;
         }
 
-        /** One more INSTRUCTION at the token that is to be taken: where it is, or NONE with ROOM told. */
+        /** One more INSTRUCTION at the token that is to be taken: where it is; ROOM is told if there is one too many. */
         private int emit(int instruction) {
             int i = code.reserve();
             putHere(i, instruction);

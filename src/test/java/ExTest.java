@@ -5,6 +5,8 @@ public final class ExTest {
         logic();
         precedence();
         namesInEx();
+        highest();
+        stackFirst();
         shortCut();
         updates();
         turns();
@@ -125,6 +127,27 @@ public final class ExTest {
         ex("top(s)", -6);
         ex("empty(s)", 0);
         ex("a[size(s)]", 2);
+    }
+
+    /** An ex of sixteen PARTS in one another is worked out to the last of them. */
+    private static void highest() {
+        ex("1" + "+1".repeat(15), 16);
+        ex("-".repeat(15) + "p", -7);
+        ex("-".repeat(14) + "a[1]", 11);
+        ex("1-(2-(3-(4-(5-(6-(7-(8-(9-(10-(11-(12-(13-(14-(15-16))))))))))))))", -8);
+        ex("p && ".repeat(15) + "n", 1);
+        ex("0 || ".repeat(15) + "n", 1);
+        ex("!".repeat(15) + "0", 1);
+        ex("~".repeat(15) + "0", -1);
+        ex("a[".repeat(15) + "2" + "]".repeat(15), 2);
+        ex("1&&(1&&(1&&(1&&(1&&(1&&(1&&(1&&(1&&(1&&(1&&(1&&(1&&(1&&(1&&n))))))))))))))", 1);
+    }
+
+    private static void stackFirst() {
+        Mill m = Mill.of("stack int s[2]; int x; main { push x, s; x += top(s) + size(s) * 10 + empty(s) * 100; push x, s; pop x, s; }");
+        m.mill.set(1, 0, 5);
+        Mill.due("a stack that is declared first", m.run(false), "5 15");
+        Mill.due("ended", m.mill.state(0), 2);
     }
 
     private static void shortCut() {

@@ -270,6 +270,8 @@ public final class FaultTest {
     private static void roomOfNames() {
         Mill.fine(declarations(40) + "main{}");
         Mill.faulty(4, declarations(40) + "int @z;main{}");
+        Mill.fine(declarations(40) + "main{" + nestedLocals(12, "n0+=n39;n39+=n1;k11+=k0+n20;k0+=k11;") + "}");
+        Mill.faulty(2, declarations(39) + "main{" + nestedLocals(12, "n0+=@n39;") + "}");
         Mill.faulty(4, declarations(40) + "stack int @z[0];main{}");
         Mill.faulty(2, declarations(40) + "int @n0;main{}");
         Mill.fine("int a[200],b[200],c[200],d[200],e[199],x; stack int s[1]; main{}");
@@ -434,6 +436,7 @@ public final class FaultTest {
         faulty(6, "pop a[top(s)], @s;");
         faulty(6, "pop a[empty(s)], @s;");
         fine("push a[top(t)], s; pop a[size(t) + x], s;");
+        Mill.fine("int x, y; int a[9]; main { a[1 + 2] <=> x; a[(1 + 2) * -3] <=> y; }");
         // Whose place has no [ ] ahead, or another one's.
         fine("a[x] <=> y; x <=> y;");
         fine("push r[top(s)], t;");
@@ -563,7 +566,7 @@ public final class FaultTest {
         Mill.due("load() cut within brackets", m.load(open.substring(0, open.indexOf("1"))), JanusMill.NONE);
         Mill.due("load() of forty brackets", m.load(open), 3);
         String procedures = "proc p(int a,int b,int c,int d,int e,int f){" + times(60, "call p(f,e,d,c,b,a);") + "}main{}";
-        for (int i = 0; i < 6; i++) {
+        for (int i = 0; i < 12; i++) {
             Mill.due("load() of 360 arguments", m.load(procedures), 64);
             m.mill.write(false);
             Mill.due("last call", m.out().contains("call p ( f , e , d , c , b , a ) ;\n}\nmain"));

@@ -102,11 +102,11 @@ public final class LoadTest {
     }
 
     private static void anotherProgram() {
-        Mill m = Mill.of("int x; stack int s[2]; main { x += 1; }");
+        Mill m = Mill.of("int x; stack int s[2]; main { local int k = 1 { x += k; } delocal 1; }");
         m.mill.set(0, 0, 5);
         m.mill.lay(1, 7);
         m.mill.begin(false);
-        m.mill.step(1);
+        m.mill.step(2);
         String before = m.written(false);
         Mill.due("load()", m.load("byte y, z; stack byte t[3]; proc p() {} main { skip; y += 2; }"), 6);
         Mill.due("count(0)", m.mill.count(0), 0);
@@ -114,6 +114,8 @@ public final class LoadTest {
         Mill.due("numbers", m.numbers(), "0 0 -");
         Mill.due("state(0)", m.mill.state(0), 0);
         Mill.due("drop()", m.mill.drop(), JanusMill.STATE);
+        Mill.due("frame(0, 2)", m.mill.frame(0, 2), JanusMill.NONE);
+        Mill.due("local(0)", m.mill.local(0), Long.MIN_VALUE);
         Mill.due("out() stays", m.out(), before);
         Mill.due("run", m.run(false), "2 0 -");
         // The first one again, behind the second: nothing is left of either.

@@ -97,6 +97,12 @@ public final class WriteTest {
         ex("1||2&&3|4^5&6==7<8<<9+10*11", "( 1 || ( 2 && ( 3 | ( 4 ^ ( 5 & ( 6 == ( 7 < ( 8 << ( 9 + ( 10 * 11 ) ) ) ) ) ) ) ) ) )");
         ex("1%2/3>=4>5<=6>>7", "( ( ( ( ( 1 % 2 ) / 3 ) >= 4 ) > 5 ) <= ( 6 >> 7 ) )");
         ex("999999999999999999", "999999999999999999");
+        // Sixteen PARTS in one another, on each side.
+        ex("1" + "+1".repeat(15), "( ".repeat(15) + "1" + " + 1 )".repeat(15));
+        ex("1+(".repeat(14) + "1+1" + ")".repeat(14), "( 1 + ".repeat(15) + "1" + " )".repeat(15));
+        ex("~".repeat(15) + "x", "( ~ ".repeat(15) + "x" + " )".repeat(15));
+        ex("a[".repeat(15) + "x" + "]".repeat(15), "a [ ".repeat(15) + "x" + " ]".repeat(15));
+        ex("-".repeat(14) + "a[x]", "( - ".repeat(14) + "a [ x ]" + " )".repeat(14));
     }
 
     private static void outStays() {
