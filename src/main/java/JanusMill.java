@@ -272,7 +272,7 @@ public final class JanusMill {
         }
     }
 
-    /** The kinds of TOKENS and of PARTS, and how they are spelled. A word is held as one long, so that it can be compared. */
+    /** The kinds of TOKENS and of PARTS, and how they are spelled. A word is held as one long, to be compared at once. */
     private static final class Words {
         static final int END = 0;
         static final int NO_TOKEN = 1;
