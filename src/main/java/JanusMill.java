@@ -582,25 +582,26 @@ public final class JanusMill {
             return length;
         }
 
+        // A word takes as many bytes as there are, but 12 at most: what stands behind these begins the next token.
         private int splitWord(byte[] text, int from, int length, int n) {
             long word = 0;
             int i = from;
-            for (; i < length && Words.isOfWord(text[i]); i++) {
+            for (; i < length && i < from + Words.LONGEST_WORD && Words.isOfWord(text[i]); i++) {
                 word = Words.longer(word, text[i]);
             }
             values[n] = word;
-            kinds[n] = i - from > Words.LONGEST_WORD ? Words.NO_TOKEN : words.kindOf(word);
+            kinds[n] = words.kindOf(word);
             return i;
         }
 
         private int splitNumber(byte[] text, int from, int length, int n) {
             long number = 0;
             int i = from;
-            for (; i < length && Words.isDigit(text[i]); i++) {
+            for (; i < length && i < from + Words.LONGEST_NUMBER && Words.isDigit(text[i]); i++) {
                 number = number * 10 + (text[i] - '0');
             }
             values[n] = number;
-            kinds[n] = i - from > Words.LONGEST_NUMBER ? Words.NO_TOKEN : Words.NUMBER;
+            kinds[n] = Words.NUMBER;
             return i;
         }
 
@@ -608,7 +609,8 @@ public final class JanusMill {
             int bytes = 0;
             int longest = 0;
             kinds[n] = Words.NO_TOKEN;
-            for (int i = from; i < length && i < from + Words.LONGEST_SIGN; i++) {
+            // A 0 ahead of other bytes would leave their sign's number as it is, so it must end the search.
+            for (int i = from; i < length && i < from + Words.LONGEST_SIGN && text[i] != 0; i++) {
                 bytes = bytes << 8 | text[i] & 255;
                 int kind = Words.kindOfSign(bytes);
                 if (kind != Words.NO_TOKEN) {
