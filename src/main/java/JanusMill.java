@@ -582,26 +582,26 @@ public final class JanusMill {
             return length;
         }
 
-        // A word takes as many bytes as there are, but 12 at most: what stands behind these begins the next token.
+        // All bytes of a word belong together: one that is too long is no token as a whole, not two tokens.
         private int splitWord(byte[] text, int from, int length, int n) {
             long word = 0;
             int i = from;
-            for (; i < length && i < from + Words.LONGEST_WORD && Words.isOfWord(text[i]); i++) {
+            for (; i < length && Words.isOfWord(text[i]); i++) {
                 word = Words.longer(word, text[i]);
             }
             values[n] = word;
-            kinds[n] = words.kindOf(word);
+            kinds[n] = i - from > Words.LONGEST_WORD ? Words.NO_TOKEN : words.kindOf(word);
             return i;
         }
 
         private int splitNumber(byte[] text, int from, int length, int n) {
             long number = 0;
             int i = from;
-            for (; i < length && i < from + Words.LONGEST_NUMBER && Words.isDigit(text[i]); i++) {
+            for (; i < length && Words.isDigit(text[i]); i++) {
                 number = number * 10 + (text[i] - '0');
             }
             values[n] = number;
-            kinds[n] = Words.NUMBER;
+            kinds[n] = i - from > Words.LONGEST_NUMBER ? Words.NO_TOKEN : Words.NUMBER;
             return i;
         }
 

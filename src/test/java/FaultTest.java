@@ -45,7 +45,7 @@ public final class FaultTest {
         Mill.fine(" \n main \n{ \n} \n");
         Mill.fine("int abcdefghijkl;main{}");
         Mill.fine("int a_9_z;main{}");
-        Mill.faulty(1, "int abcdefghijkl@m;main{}");
+        Mill.faulty(1, "int @abcdefghijklm;main{}");
         Mill.faulty(1, "int @_a;main{}");
         Mill.faulty(1, "int @Abc;main{}");
         Mill.faulty(1, "int a@B;main{}");
@@ -58,8 +58,8 @@ public final class FaultTest {
         Mill.faulty(1, "# nothing @");
         fine("x += 999999999999999999;");
         fine("x += 000000000000000001;");
-        faulty(1, "x += 000000000000000000@1;");
-        faulty(1, "x += 100000000000000000@0;");
+        faulty(1, "x += @0000000000000000001;");
+        faulty(1, "x += @1000000000000000000;");
         faulty(1, "x += 1@x;");
         faulty(1, "x += y @$;");
         // Signs are the longest that there are.

@@ -26,6 +26,7 @@ public final class MachineEdgesTest {
         placeFirst();
         left();
         leftAtDelocal();
+        highest();
         frames();
         framesBackwards();
         framesByUncall();
@@ -435,6 +436,51 @@ public final class MachineEdgesTest {
             Mill.due("step(20000) with " + more, m.mill.step(20000), more == 0 ? 4 : 3);
             Mill.due("state(1) with " + more, m.mill.state(1), more == 0 ? 0 : 7);
             Mill.due("local(0) with " + more, m.mill.local(0), more == 0 ? Long.MIN_VALUE : (byte) (128 + more));
+        }
+    }
+
+    /** A program with an ex of sixteen PARTS in one another for each %: true if p is 0, not if it is 1. */
+    private static Mill withHighest(String statement, int p) {
+        Mill m = Mill.of("int p, x; int a[2]; stack int s[1]; main { " + statement.replace("%", "!".repeat(15) + "p") + " }");
+        m.mill.set(0, 0, p);
+        return m;
+    }
+
+    /** The highest ex is worked out to the last of its PARTS, in each place that an ex can have. */
+    private static void highest() {
+        for (int p = 0; p <= 1; p++) {
+            for (String test : new String[] {"assert %;", "if 1 {} fi %;", "from % until 1;", "from 1 until %;"}) {
+                Mill m = withHighest(test, p);
+                m.mill.begin(false);
+                m.mill.step(20000);
+                Mill.due("state(1) of " + test + " with " + p, m.mill.state(1), p);
+            }
+            for (String change : new String[] {"x += %;", "if % { x += 1; } fi x;", "local int k = % { x += k; } delocal x;",
+                "local int k = 1 - p { x += k; } delocal %;"}) {
+                Mill m = withHighest(change, p);
+                m.mill.begin(false);
+                m.mill.step(20000);
+                Mill.due("state(0) of " + change + " with " + p, m.mill.state(0), 2);
+                Mill.due("x of " + change + " with " + p, m.mill.value(1, 0), 1 - p);
+            }
+            highestInPlaces(p);
+        }
+    }
+
+    private static void highestInPlaces(int p) {
+        for (String statement : new String[] {"a[%] += 7;", "a[%] *= 7;", "a[%] <=> x;", "x <=> a[%];", "push a[%], s;", "pop a[%], s;"}) {
+            Mill m = withHighest(statement, p);
+            boolean isPop = statement.startsWith("pop");
+            int before = isPop ? 0 : 1;
+            m.mill.set(2, 0, before);
+            m.mill.set(2, 1, before);
+            if (isPop) {
+                m.mill.lay(3, 5);
+            }
+            m.mill.begin(false);
+            Mill.due("step(1) of " + statement, m.mill.step(1), 1);
+            Mill.due(statement + " changes number " + (1 - p), m.mill.value(2, 1 - p) != before);
+            Mill.due(statement + " leaves number " + p, m.mill.value(2, p), before);
         }
     }
 

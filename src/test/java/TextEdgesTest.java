@@ -126,18 +126,20 @@ public final class TextEdgesTest {
         }
     }
 
-    /** "(as many as there are, 12 at most)": what stands behind the twelfth byte is the next TOKEN. */
+    /** "(as many as there are, 12 at most)": all of them are taken together, and a WORD with a thirteenth is none. */
     private static void longWords() {
         Mill.fine("int abcdefghijk;main{}");
         Mill.fine("int abcdefghijkl;main{}");
-        Mill.faulty(1, "int abcdefghijkl@m;main{}");
-        Mill.faulty(1, "int abcdefghijkl@mnopqrstuvwx;main{}");
-        Mill.faulty(1, "int abcdefghijkl@mnopqrstuvwxy;main{}");
-        Mill.faulty(1, "int abcdefghijkl@9;main{}");
-        Mill.faulty(1, "int abcdefghijkl@_;main{}");
-        Mill.faulty(1, "int a___________@_;main{}");
-        Mill.faulty(2, "int abcdefghijkl,@abcdefghijklm;main{}");
-        Mill.fine("int abcdefghijkl;main{from abcdefghijkldo{}until 1;}");
+        Mill.faulty(1, "int @abcdefghijklm;main{}");
+        Mill.faulty(1, "int @abcdefghijklmnopqrstuvwx;main{}");
+        Mill.faulty(1, "int @abcdefghijklmnopqrstuvwxy;main{}");
+        Mill.faulty(1, "int @abcdefghijkl9;main{}");
+        Mill.faulty(1, "int @abcdefghijkl_;main{}");
+        Mill.faulty(1, "int @" + "z".repeat(3000) + ";main{}");
+        Mill.faulty(1, "int abcdefghijkl,@abcdefghijklm;main{}");
+        Mill.faulty(1, "int abcdefghijkl;main{from @abcdefghijkldo{}until 1;}");
+        Mill.faulty(1, "int abcdefghijkl;main{@abcdefghijklm+=1;}");
+        Mill.faulty(1, "@" + "main".repeat(4) + "{}");
         Mill m = Mill.of("int abcdefghijkl;main{abcdefghijkl+=1;}");
         Mill.due("variable(0, 3)", m.mill.variable(0, 3), 12);
         Mill.due("variable(0, 20)", m.mill.variable(0, 20), 'k');
@@ -148,20 +150,21 @@ public final class TextEdgesTest {
         Mill.faulty(2, "int abcdefghijkl,@abcdefghijkl;main{}");
     }
 
-    /** "NUMBERS: digits (as many as there are, 18 at most)". */
+    /** "NUMBERS: digits (as many as there are, 18 at most)", likewise. */
     private static void longNumbers() {
         fine("x += 9;");
         fine("x += " + "9".repeat(17) + ";");
         fine("x += " + "9".repeat(18) + ";");
-        faulty(1, "x += " + "9".repeat(18) + "@9;");
-        faulty(1, "x += " + "9".repeat(18) + "@" + "9".repeat(18) + ";");
-        faulty(1, "x += " + "9".repeat(18) + "@" + "9".repeat(19) + ";");
-        faulty(1, "x += " + "0".repeat(18) + "@0;");
+        faulty(1, "x += @" + "9".repeat(19) + ";");
+        faulty(1, "x += @" + "9".repeat(36) + ";");
+        faulty(1, "x += @" + "9".repeat(37) + ";");
+        faulty(1, "x += @" + "0".repeat(19) + ";");
+        faulty(1, "x += @" + "1".repeat(3000) + ";");
         Mill.fine("int a[" + "0".repeat(15) + "200];main{}");
-        Mill.faulty(3, "int a[@" + "0".repeat(18) + "9];main{}");
-        Mill.faulty(1, "int a[" + "0".repeat(17) + "9@9];main{}");
-        faulty(3, "x *= @" + "9".repeat(17) + "81;");
-        faulty(1, "x *= " + "8".repeat(17) + "9@1;");
+        Mill.faulty(1, "int a[@" + "0".repeat(18) + "9];main{}");
+        faulty(1, "x *= @" + "9".repeat(17) + "81;");
+        faulty(3, "x *= @" + "9".repeat(17) + "8;");
+        fine("x *= " + "8".repeat(17) + "9;");
         Mill m = Mill.of("long x; main { x += " + "9".repeat(18) + "; }");
         Mill.due("run", m.run(false), "9".repeat(18));
     }

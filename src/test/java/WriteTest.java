@@ -6,6 +6,8 @@ public final class WriteTest {
         blocks();
         procedures();
         brackets();
+        operatorsInPairs();
+        highestInStatements();
         outStays();
         readsTheSame();
         inverseRuns();
@@ -103,6 +105,34 @@ public final class WriteTest {
         ex("~".repeat(15) + "x", "( ~ ".repeat(15) + "x" + " )".repeat(15));
         ex("a[".repeat(15) + "x" + "]".repeat(15), "a [ ".repeat(15) + "x" + " ]".repeat(15));
         ex("-".repeat(14) + "a[x]", "( - ".repeat(14) + "a [ x ]" + " )".repeat(14));
+    }
+
+    /** "by || , && , | , ^ , & , == != , < <= > >= , << >> >>> , + - , * / % , from the loosest on, each from the left". */
+    private static void operatorsInPairs() {
+        String[] levels = {"||", "&&", "|", "^", "&", "== !=", "< <= > >=", "<< >> >>>", "+ -", "* / %"};
+        for (int i = 0; i < levels.length; i++) {
+            for (int j = 0; j < levels.length; j++) {
+                for (String first : levels[i].split(" ")) {
+                    for (String second : levels[j].split(" ")) {
+                        boolean fromLeft = i >= j;
+                        String due = fromLeft ? "( ( x " + first + " y ) " + second + " z )" : "( x " + first + " ( y " + second + " z ) )";
+                        ex("x " + first + " y " + second + " z", due);
+                    }
+                }
+            }
+        }
+    }
+
+    /** An ex of sixteen PARTS in one another is written to the last of them, in each place that an ex can have. */
+    private static void highestInStatements() {
+        String ex = "!".repeat(15) + "p";
+        String due = "( ! ".repeat(15) + "p" + " )".repeat(15);
+        for (String statement : new String[] {"x += % ;", "a [ % ] += 1 ;", "a [ % ] <=> x ;", "x <=> a [ % ] ;", "push a [ % ] , s ;", "pop a [ % ] , s ;",
+            "assert % ;", "if % {\n}\nelse {\n}\nfi % ;", "from % do {\n}\nloop {\n}\nuntil % ;", "local int k = % {\n}\ndelocal % ;"}) {
+            Mill m = Mill.of("int x,p,a[2];stack int s[1];main{" + statement.replace("%", ex) + "}");
+            String text = m.written(false);
+            Mill.due("written " + statement, text.substring(text.indexOf("main")), "main {\n" + statement.replace("%", due) + "\n}\n");
+        }
     }
 
     private static void outStays() {
