@@ -999,9 +999,9 @@ public final class JanusMill {
         private final int[] pendingTokens = new int[ROOM];
         private final int[] pendingNames = new int[ROOM];
         private final int[] operands = new int[ROOM];
-        private Program program = new Program();
-        private Names names = program.names;
-        private Parts parts = program.parts;
+        private final Program firstProgram = new Program();
+        private Names names = firstProgram.names;
+        private Parts parts = firstProgram.parts;
         private int waiting;
         private int held;
         private int opened;
@@ -1009,7 +1009,6 @@ public final class JanusMill {
         private int changedToo;
 
         void start(Program empty) {
-            program = empty;
             names = empty.names;
             parts = empty.parts;
         }
@@ -1217,7 +1216,7 @@ public final class JanusMill {
         private final int[] stagesBehind = new int[MOST_OPEN];
         private final int[] heads = new int[MOST_OPEN];
         private final int[] middles = new int[MOST_OPEN];
-        private Program program = exReader.program;
+        private Program program = exReader.firstProgram;
         private Names names = program.names;
         private Code code = program.code;
         private int stage;

@@ -26,6 +26,7 @@ public final class MachineEdgesTest {
         placeFirst();
         left();
         leftAtDelocal();
+        failingExLeavesLocal();
         highest();
         frames();
         framesBackwards();
@@ -436,6 +437,24 @@ public final class MachineEdgesTest {
             Mill.due("step(20000) with " + more, m.mill.step(20000), more == 0 ? 4 : 3);
             Mill.due("state(1) with " + more, m.mill.state(1), more == 0 ? 0 : 7);
             Mill.due("local(0) with " + more, m.mill.local(0), more == 0 ? Long.MIN_VALUE : (byte) (128 + more));
+        }
+    }
+
+    /** "then it is not done, and the machine is as it was": a LOCAL stays, whatever it is, where its ex can't be worked out. */
+    private static void failingExLeavesLocal() {
+        for (int k = -1; k <= 1; k++) {
+            for (boolean backwards : new boolean[] {false, true}) {
+                String text = backwards ? "int k; main { local int l = 1 / (k - k) {} delocal k; }" : "int k; main { local int l = k {} delocal 1 / (k - k); }";
+                Mill m = Mill.of(text);
+                m.mill.set(0, 0, k);
+                m.mill.begin(backwards);
+                Mill.due("step(20000) of " + text, m.mill.step(20000), 1);
+                Mill.due("state(1) of " + text, m.mill.state(1), 3);
+                Mill.due("state(7) of " + text, m.mill.state(7), 1);
+                Mill.due("local(0) of " + text, m.mill.local(0), k);
+                Mill.due("step(-1) of " + text, m.mill.step(-1), 1);
+                Mill.due("state(7) of " + text, m.mill.state(7), 0);
+            }
         }
     }
 

@@ -2,6 +2,7 @@
 public final class WriteTest {
     public static void main(String[] args) {
         small();
+        kinds();
         statements();
         blocks();
         procedures();
@@ -33,6 +34,14 @@ public final class WriteTest {
         Mill.due("out(15)", m.mill.out(15), '\n');
         for (int i : new int[] {-1, 16, 11999, 12000, Integer.MAX_VALUE, Integer.MIN_VALUE}) {
             Mill.due("out(" + i + ")", m.mill.out(i), JanusMill.NONE);
+        }
+    }
+
+    private static void kinds() {
+        for (String kind : new String[] {"byte", "short", "int", "long"}) {
+            String due = "% x ;\n% r [ 2 ] ;\nstack % s [ 1 ] ;\nproc p ( % x , % r [ ] , stack % s ) {\n}\nmain {\nlocal % k = 1 {\n}\ndelocal 1 ;\n}\n"
+                .replace("%", kind);
+            written("% x,r[2];stack % s[1];proc p(% x,% r[],stack % s){}main{local % k=1{}delocal 1;}".replace("%", kind), due, due);
         }
     }
 
